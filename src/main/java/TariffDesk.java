@@ -463,9 +463,9 @@ public final class TariffDesk {
                 case 2: case 4: case 5: return isDigit(letter);
                 case 6: return letter == '@';
                 case 7: return isDigit(letter) && digitAt(place) <= 6;
-                case 8: return isDigit(letter) && isQuantity(pairAt(place - 1));
+                case 8: return isDigit(letter) && pairAt(place - 1) <= 63;
                 case 9: return isDigit(letter) && digitAt(place) <= 6 && digitAt(place) >= digitAt(place - 2);
-                case 10: return isDigit(letter) && isQuantity(pairAt(place - 1)) && pairAt(place - 1) >= pairAt(place - 3);
+                case 10: return isDigit(letter) && pairAt(place - 1) <= 63 && pairAt(place - 1) >= pairAt(place - 3);
                 default: return letter == ',';
             }
         }
@@ -523,12 +523,16 @@ public final class TariffDesk {
         }
 
         long priceFor(int quantity) {
-            return priceAs(kind, quantity);
+            return byRate(kind, quantity) + byBase(kind);
         }
 
         /** The price as if it was of that kind: longs, as other kinds than its own may be great. */
         long priceAs(int asKind, int quantity) {
-            return byRate(asKind, quantity) + (asKind == SALE ? Math.floorDiv(base, 2) : base);
+            return byRate(asKind, quantity) + byBase(asKind);
+        }
+
+        private int byBase(int asKind) {
+            return asKind == SALE ? Math.floorDiv(base, 2) : base;
         }
 
         private long byRate(int asKind, int quantity) {
@@ -609,20 +613,20 @@ public final class TariffDesk {
         private final int[] stoodBefore = new int[MOST_CHANGES * (MOST_TARIFFS + MOST_DRAWN)];
         private final int[] changesBefore = new int[MOST_TARIFFS + MOST_DRAWN];
         private int changes;
-        /** The cheapest tariff of each quantity, looked for only when it is asked for after a change. */
+        /** The cheapest tariff of each quantity: kept, as most calls ask for many of them. */
         private final int[] lowest = new int[QUANTITIES];
-        private boolean lowestIsKnown;
 
         Tree(Tariffs offered) {
             tariffs = offered;
             Arrays.fill(stands, NONE);
+            Arrays.fill(lowest, NONE);
         }
 
         void empty() {
             Arrays.fill(stands, NONE);
+            Arrays.fill(lowest, NONE);
             tariffs.size = 0;
             changes = 0;
-            lowestIsKnown = false;
         }
 
         /** The tariff is offered: at how many nodes another one stands then. */
@@ -634,13 +638,13 @@ public final class TariffDesk {
             int before = changes;
             changesBefore[number] = before;
             tariffs.add(tariff);
-            lowestIsKnown = false;
             int quantity = tariff.first;
             while (quantity <= tariff.last) {
                 int node = widestNode(quantity, tariff.last);
                 push(number, node);
                 quantity += sizeOf(node);
             }
+            lowerBy(number, tariff);
             return changes - before;
         }
 
@@ -653,8 +657,12 @@ public final class TariffDesk {
                 changes--;
                 stands[changedNodes[changes]] = stoodBefore[changes];
             }
+            for (int quantity = 0; quantity < QUANTITIES; quantity++) {
+                if (lowest[quantity] == number) {
+                    lowest[quantity] = bestAbove(quantity);
+                }
+            }
             tariffs.size = number;
-            lowestIsKnown = false;
         }
 
         int standingAt(int node) {
@@ -673,12 +681,6 @@ public final class TariffDesk {
         }
 
         int lowestFor(int quantity) {
-            if (!lowestIsKnown) {
-                for (int each = 0; each < QUANTITIES; each++) {
-                    lowest[each] = bestAbove(each);
-                }
-                lowestIsKnown = true;
-            }
             return isQuantity(quantity) ? lowest[quantity] : NONE;
         }
 
@@ -743,6 +745,15 @@ public final class TariffDesk {
                 stoodBefore[changes] = stands[node];
                 changes++;
                 stands[node] = tariff;
+            }
+        }
+
+        private void lowerBy(int newcomer, Tariff tariff) {
+            for (int quantity = 0; quantity < QUANTITIES; quantity++) {
+                int old = lowest[quantity];
+                if (tariff.spans(quantity) && (old == NONE || tariffs.isBetter(newcomer, old, quantity))) {
+                    lowest[quantity] = newcomer;
+                }
             }
         }
 

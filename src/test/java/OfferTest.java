@@ -4,6 +4,7 @@ public final class OfferTest {
 
     public static void main(String[] args) {
         pushes();
+        pushesThroughAllLevels();
         tooGreat();
         refusals();
         undoes();
@@ -42,6 +43,32 @@ public final class OfferTest {
         for (int node : ten) {
             Due.is("NODE " + node, x.node(node, 0), 3);
         }
+    }
+
+    /** Each one is cheaper than all before it for one QUANTITY alone, and so goes one level deeper. */
+    private static void pushesThroughAllLevels() {
+        TariffDesk low = Due.desk("f+0+00@0063");
+        TariffDesk high = Due.desk("f+0+00@0063");
+        for (int t = 1; t <= 5; t++) {
+            Due.is("offer no. " + t, low.offer(0, t, -t, 63), 1);
+            Due.is("the lower half, and on", low.node(1 << t, 0), t);
+        }
+        // 0 is the MIDDLE of 0 to 1: the new one wins there, the old one is BETTER for 1 (like, and earlier)
+        Due.is("offer no. 6", low.offer(0, 6, -6, 63), 2);
+        Due.is("takes NODE 32", low.node(32, 0), 6);
+        Due.is("goes on to the upper half", low.node(65, 0), 5);
+        Due.is("none goes on to the lower half", low.node(64, 0), Due.NONE);
+        for (int t = 1; t <= 6; t++) {
+            Due.is("offer no. " + t, high.offer(0, -t, 62 * t, 63), 1);
+            Due.is("the upper half, and on", high.node((2 << t) - 1, 0), t);
+        }
+        Due.is("offer no. 7", high.offer(0, -7, 62 * 7, 63), 1);
+        Due.is("a NODE of one alone", high.node(127, 0), 7);
+        Due.is("the other one is gone", high.tariff(6, 3), 0);
+        Due.is("offer no. 8, dearer", high.offer(0, -5, 62 * 5, 63), 0);
+        Due.is("undo()", high.undo(), 8);
+        Due.is("undo()", high.undo(), 7);
+        Due.is("it STANDS there again", high.node(127, 0), 6);
     }
 
     private static void offered(int kind, int rate, int base, int span, boolean fine) {

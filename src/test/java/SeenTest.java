@@ -81,6 +81,9 @@ public final class SeenTest {
         // rate 0: only the SALE differs, everywhere alike
         x = Due.desk("t+0+20@1020");
         Due.is("of like ones the least", x.tariff(0, 6), 10);
+        // nothing differs anywhere: all five are left at worst
+        x = Due.desk("t+0+00@1020");
+        Due.is("of like ones the least, even so", x.tariff(0, 6), 10);
         // 0: 20 20 20 20 10, 1: 17 20 14 17 7, 10: .. one pair is always left, BEGUN from 0
         x = Due.desk("t-3+20@0020");
         Due.is("two are left at worst", x.tariff(0, 6), 1);

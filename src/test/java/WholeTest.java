@@ -37,7 +37,9 @@ public final class WholeTest {
         }
         Due.is("image() of a DESK with none left", x.image(), 0);
         x.offer(0, 1, 1, 63);
+        Due.is("one is CHEAPEST", x.cheapest(0), 0);
         Due.is("the latest one counts", x.restore(), 0);
+        Due.is("none is CHEAPEST", x.cheapest(0), Due.NONE);
         Due.is("nothing STANDS", x.count(1), 0);
         Due.is("nothing to UNDO", x.undo(), Due.STATE);
 
@@ -63,6 +65,11 @@ public final class WholeTest {
         Due.is("restore() of 40", x.restore(), 40);
         Due.that("all 40 are as they were", kept.equals(Due.state(x)));
         Due.is("still FULL", x.offer(0, 1, 1, 63), Due.FULL);
+        for (int i = 0; i < 300; i++) {
+            x.restore();
+        }
+        Due.that("however often", kept.equals(Due.state(x)));
+        Due.is("and undo()", x.undo(), 39);
     }
 
     private static void counts(TariffDesk x, int... due) {
@@ -86,6 +93,9 @@ public final class WholeTest {
         Due.typed(x, "f+0+00@0063");
         x.desk();
         counts(x, 1, 1, 1, 0, 0, 0, 0, 2);
+        x.offer(1, 0, -1, 63);
+        counts(x, 2, 1, 1, 0, 1, 0, 0, 2);
+        x.undo();
         x.undo();
         counts(x, 0, 0, 0, 64, 0, 0, 0, 2);
     }
