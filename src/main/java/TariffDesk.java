@@ -638,11 +638,11 @@ public final class TariffDesk {
             int before = changes;
             changesBefore[number] = before;
             tariffs.add(tariff);
-            int quantity = tariff.first;
-            while (quantity <= tariff.last) {
-                int node = widestNode(quantity, tariff.last);
+            int next = tariff.first;
+            for (int pushed = 0; pushed < QUANTITIES && next <= tariff.last; pushed++) {
+                int node = widestNode(next, tariff.last);
                 push(number, node);
-                quantity += sizeOf(node);
+                next = lastOf(node) + 1;
             }
             lowerBy(number, tariff);
             return changes - before;
@@ -655,7 +655,7 @@ public final class TariffDesk {
             }
             while (changes > changesBefore[number]) {
                 changes--;
-                stands[changedNodes[changes]] = stoodBefore[changes];
+                putBack(changes);
             }
             for (int quantity = 0; quantity < QUANTITIES; quantity++) {
                 if (lowest[quantity] == number) {
@@ -740,12 +740,22 @@ public final class TariffDesk {
         }
 
         private void put(int node, int tariff) {
-            if (changes < changedNodes.length && changes < stoodBefore.length) {
+            if (isLogPlace(changes) && node >= 1 && node <= NODES) {
                 changedNodes[changes] = node;
                 stoodBefore[changes] = stands[node];
                 changes++;
                 stands[node] = tariff;
             }
+        }
+
+        private void putBack(int change) {
+            if (isLogPlace(change) && changedNodes[change] >= 1 && changedNodes[change] <= NODES) {
+                stands[changedNodes[change]] = stoodBefore[change];
+            }
+        }
+
+        private boolean isLogPlace(int change) {
+            return change >= 0 && change < changedNodes.length && change < stoodBefore.length;
         }
 
         private void lowerBy(int newcomer, Tariff tariff) {

@@ -48,24 +48,16 @@ final class Due {
         return x;
     }
 
-    /** All that can be asked of a desk: two that tell the same here are in the same state, but for the image. */
+    /**
+     * Two objects that tell the same here are in the same state, but for the IMAGE and what can be UNDONE.
+     * An object is used for at most 512 calls, so this asks little: digest() goes over most of it.
+     */
     static String state(TariffDesk x) {
-        StringBuilder told = new StringBuilder();
-        for (int what = 0; what <= 7; what++) {
-            told.append(x.count(what)).append(' ');
+        StringBuilder told = new StringBuilder().append(x.digest()).append(' ').append(x.fault());
+        int tariffs = x.count(0);
+        for (int t = 0; t < tariffs; t++) {
+            told.append(' ').append(x.price(t, x.tariff(t, 1))).append(' ').append(x.price(t, x.tariff(t, 2)));
         }
-        for (int t = 0; t < x.count(0); t++) {
-            for (int what = 0; what <= 6; what++) {
-                told.append(x.tariff(t, what)).append(' ');
-            }
-            told.append(x.price(t, x.tariff(t, 1))).append(' ').append(x.price(t, x.tariff(t, 2))).append(' ');
-        }
-        for (int n = 1; n <= 127; n++) {
-            told.append(x.node(n, 0)).append(' ');
-        }
-        for (int q = 0; q < 64; q++) {
-            told.append(x.cheapest(q)).append(' ').append(x.cost(q)).append(' ');
-        }
-        return told.append(x.fault()).append(' ').append(x.digest()).toString();
+        return told.toString();
     }
 }

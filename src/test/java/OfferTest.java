@@ -130,10 +130,10 @@ public final class OfferTest {
     }
 
     private static void refused(TariffDesk x, int kind, int span, int want) {
-        String before = Due.state(x);
+        long before = x.digest();
         Due.is("offer(" + kind + ", 1, 1, " + span + ")", x.offer(kind, 1, 1, span), want);
         Due.is("would(" + kind + ", 1, 1, " + span + ")", x.would(kind, 1, 1, span), want);
-        Due.that("refused, nothing changes", before.equals(Due.state(x)));
+        Due.is("refused, nothing changes", x.digest(), before);
     }
 
     private static void allRefused(TariffDesk x, int otherwise) {
@@ -164,25 +164,25 @@ public final class OfferTest {
 
     private static void undoes() {
         TariffDesk x = Due.desk("t+1+00@0063,t-1+63@0063");
-        String[] before = new String[40];
+        long[] before = new long[40];
         int[][] offers = new int[40][];
         for (int t = 2; t < 40; t++) {
-            before[t] = Due.state(x);
+            before[t] = x.digest();
             offers[t] = new int[] {t % 5, (t * 7) % 11 - 5, (t * 13) % 61 - 30, 100 * (t * 5 % 32) + 63 - t * 3 % 32};
             int nodes = x.offer(offers[t][0], offers[t][1], offers[t][2], offers[t][3]);
             Due.that("offer is taken", nodes >= 0);
         }
         for (int t = 39; t >= 20; t--) {
             Due.is("undo()", x.undo(), t);
-            Due.that("all is as it was before " + t, before[t].equals(Due.state(x)));
+            Due.is("all is as it was before " + t, x.digest(), before[t]);
         }
         for (int t = 20; t < 40; t++) {
-            Due.that("offered again, the same comes of it", before[t].equals(Due.state(x)));
+            Due.is("offered again, the same comes of it", x.digest(), before[t]);
             x.offer(offers[t][0], offers[t][1], offers[t][2], offers[t][3]);
         }
         for (int t = 39; t >= 2; t--) {
             Due.is("undo()", x.undo(), t);
-            Due.that("all is as it was before " + t, before[t].equals(Due.state(x)));
+            Due.is("all is as it was before " + t, x.digest(), before[t]);
         }
         Due.is("those of THE DESK, too", x.undo(), 1);
         Due.is("those of THE DESK, too", x.undo(), 0);

@@ -105,8 +105,8 @@ public final class TariffTest {
         Due.is("node(1, 0) without a DESK", x.node(1, 0), Due.NONE);
         Due.is("node(127, 0) without a DESK", x.node(127, 0), Due.NONE);
         checkNode(x, 1, 0, 63);
+        checkNode(Due.desk("f+0+10@0831,t+0+05@1011"), 1, 0, 63);
         x = Due.desk("f+0+10@0831,t+0+05@1011");
-        checkNode(x, 1, 0, 63);
         // 8-15 is NODE 9, 16-31 is NODE 5; 10-11 is NODE 37
         for (int n = 1; n <= 127; n++) {
             Due.is("node(" + n + ", 0)", x.node(n, 0), n == 9 || n == 5 ? 0 : n == 37 ? 1 : Due.NONE);

@@ -18,6 +18,8 @@ public final class TreeEdgeTest {
         likeAtOneEnd();
         nodesOfOneAndOfTwo();
         theOneThatLostGoesOnBelow();
+        downToOneAlone();
+        allLevelsChange();
         deepestPushes();
         undoOfEachOffer();
         undoOfAnOfferThatChangedNothing();
@@ -308,7 +310,59 @@ public final class TreeEdgeTest {
         Due.is("NODE 3", x.node(3, 0), 2);
     }
 
-    /** 1 to 62 has ten NODES, five of them with all levels below: the longest way that an offer can go. */
+    /** From NODE 1 through all seven levels: each one is less than all before it at one end alone. */
+    private static void downToOneAlone() {
+        TariffDesk x = Due.desk(FLAT_0);
+        for (int t = 1; t <= 6; t++) {
+            Due.is("less at 63 alone, no. " + t, x.offer(0, -t, 62 * t, 63), 1);
+            Due.is("one level deeper", x.node((2 << t) - 1, 0), t);
+        }
+        Due.is("less at 63 alone, no. 7", x.offer(0, -7, 62 * 7, 63), 1);
+        Due.is("takes the NODE of 63 alone", x.node(127, 0), 7);
+        Due.is("the one before it is gone", x.tariff(6, 3), 0);
+        Due.is("like at 63 is gone", x.offer(0, -7, 62 * 7, 63), 0);
+        Due.is("NODE of 63 alone", x.node(127, 0), 7);
+        x.undo();
+        x.undo();
+        Due.is("after undo()", x.node(127, 0), 6);
+        x = Due.desk(FLAT_0);
+        for (int t = 1; t <= 5; t++) {
+            Due.is("less at 0 alone, no. " + t, x.offer(0, t, -t, 63), 1);
+            Due.is("one level deeper", x.node(1 << t, 0), t);
+        }
+        // 0 is the MIDDLE of 0 to 1: the old one is BETTER at 1 (like, and earlier) and goes on there
+        Due.is("less at 0 alone, no. 6", x.offer(0, 6, -6, 63), 2);
+        Due.is("NODE of 0 to 1", x.node(32, 0), 6);
+        Due.is("NODE of 1 alone", x.node(65, 0), 5);
+        Due.is("NODE of 0 alone", x.node(64, 0), Due.NONE);
+        // now 6 goes on to 1, like 5 there, and is gone
+        Due.is("less at 0 alone, no. 7", x.offer(0, 7, -7, 63), 1);
+        Due.is("NODE of 1 alone stays", x.node(65, 0), 5);
+        Due.is("6 is gone", x.tariff(6, 3), 0);
+    }
+
+    /** At each of the seven levels the one that comes wins, and the one that stood there goes on. */
+    private static void allLevelsChange() {
+        // each is dearer by 1 than the one ahead of it at the MIDDLE of its own NODE, and less at 63
+        Run run = empty().then(Call.offer(0, -1, 32, 63), Call.offer(0, -2, 80, 3263), Call.offer(0, -3, 136, 4863),
+                Call.offer(0, -4, 196, 5663), Call.offer(0, -5, 258, 6063), Call.offer(0, -7, 383, 6263),
+                Call.offer(1, 0, -57, 6363));
+        TariffDesk x = run.object();
+        int[] nodes = {1, 3, 7, 15, 31, 63, 127};
+        for (int i = 0; i < 7; i++) {
+            Due.is("ahead of it: NODE " + nodes[i], x.node(nodes[i], 0), i);
+        }
+        Due.is("NODES with another one", x.offer(1, 0, 0, 63), 7);
+        Due.is("the new one", x.node(1, 0), 7);
+        for (int i = 1; i < 7; i++) {
+            Due.is("one level deeper: NODE " + nodes[i], x.node(nodes[i], 0), i - 1);
+        }
+        Due.is("the last one is gone", x.tariff(6, 3), 0);
+        Due.is("undo()", x.undo(), 7);
+        Due.is("as it was", x.digest(), run.object().digest());
+    }
+
+    /** 1 to 62 has ten NODES, two of each size but the widest: no other SPAN has more places that an offer can change. */
     private static void deepestPushes() {
         List<Call> offers = new ArrayList<>();
         for (int t = 0; t < 40; t++) {
@@ -319,12 +373,28 @@ public final class TreeEdgeTest {
         Run run = empty().then(offers.toArray(new Call[0]));
         run.isAsModelled("a bowl");
         run.then(Call.digest()).isAsModelled("a bowl, digest()");
+        allUndone(run.object());
+        run = empty();
+        for (int t = 0; t < 40; t++) {
+            run = run.then(Call.offer(1, 0, -100 * t, 162));
+        }
         TariffDesk x = run.object();
-        TariffDesk back = empty().object();
+        for (int t = 0; t < 40; t++) {
+            Due.is("the one before is gone", x.tariff(t, 3), t == 39 ? 10 : 0);
+        }
+        // those that are DRAWN change more NODES above the 400 changes, and are taken back
+        long before = x.digest();
+        run.then(Call.drawn(30, 3, 0), Call.drawn(30, 3, 1)).isAsModelled("DRAWN on top");
+        Due.that("drawn()", x.drawn(30, 3, 1) > 0);
+        Due.is("all is as it was", x.digest(), before);
+        allUndone(x);
+    }
+
+    private static void allUndone(TariffDesk x) {
         for (int t = 39; t >= 0; t--) {
             Due.is("undo()", x.undo(), t);
         }
-        Due.is("all is as it was", x.digest(), back.digest());
+        Due.is("all is as it was", x.digest(), empty().object().digest());
     }
 
     /** "at each NODE STANDS what did before it was" */

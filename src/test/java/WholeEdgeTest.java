@@ -258,6 +258,7 @@ public final class WholeEdgeTest {
             {Call.undo(), Call.offer(0, 1, -40, 162), Call.offer(2, 1, -90, 163)},
             {Call.drawn(30, Integer.MAX_VALUE, 0), Call.drawn(30, 1, 1)},
             {Call.image(), Call.restore(), Call.undo()},
+            {Call.restore()},
             {Call.letter('t'), Call.letter('~'), Call.blank()},
             {Call.see(0, 0, 0), Call.see(0, 1, 1), Call.tariff(0, 6), Call.forget()},
         };

@@ -4,6 +4,7 @@ public final class WholeTest {
 
     public static void main(String[] args) {
         promises21And22();
+        imageOfForty();
         promise23();
         promise24();
         Due.end();
@@ -53,22 +54,25 @@ public final class WholeTest {
         Due.is("a page that is no DESK", x.desk(), Due.STATE);
         Due.is("is not another DESK", x.restore(), 1);
         Due.is("how often a DESK was read is not of the IMAGE", x.count(7), 2);
+    }
 
+    private static void imageOfForty() {
+        TariffDesk x = Due.desk("f+0+01@0000");
         for (int t = 1; t < 40; t++) {
             x.offer(t % 5, t % 7 - 3, -t, 100 * t + 63);
         }
-        kept = Due.state(x);
+        long kept = x.digest();
         Due.is("image() of 40", x.image(), 40);
         while (x.undo() >= 0) {
             x.forget();
         }
         Due.is("restore() of 40", x.restore(), 40);
-        Due.that("all 40 are as they were", kept.equals(Due.state(x)));
+        Due.is("all 40 are as they were", x.digest(), kept);
         Due.is("still FULL", x.offer(0, 1, 1, 63), Due.FULL);
         for (int i = 0; i < 300; i++) {
             x.restore();
         }
-        Due.that("however often", kept.equals(Due.state(x)));
+        Due.is("however often", x.digest(), kept);
         Due.is("and undo()", x.undo(), 39);
     }
 
@@ -133,14 +137,12 @@ public final class WholeTest {
         Due.is("digest() without a DESK", x.digest(), digestOf(x, "t+~"));
         x = Due.desk(TWO);
         Due.is("digest()", x.digest(), digestOf(x, ""));
-        x.offer(4, -2, 7, 463);
-        x.see(1, 3, 59);
-        Due.typed(x, " b~");
+        Run run = Run.ofDesk(TWO).then(Call.offer(4, -2, 7, 463), Call.see(1, 3, 59)).typed(" b~");
+        x = run.object();
         Due.is("digest()", x.digest(), digestOf(x, " b~"));
-        Due.is("digest() changes nothing", x.digest(), digestOf(x, " b~"));
-        while (x.undo() >= 0) {
-            x.forget();
-        }
+        x = run.object();
+        Due.is("digest() changes nothing", x.digest(), x.digest());
+        x = run.then(Call.undo(), Call.undo(), Call.undo(), Call.forget()).object();
         Due.is("digest() of a DESK with none left", x.digest(), digestOf(x, " b~"));
     }
 }
