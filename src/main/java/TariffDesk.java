@@ -10,6 +10,7 @@ public final class TariffDesk {
     private static final int MOST_LETTERS = 50, MOST_TARIFFS = 40, MOST_DRAWN = 30, MOST_SEEN = 6;
     /** Prices can be less than nothing; told as so much more they are never taken for a refusal. */
     private static final long TOLD_MORE = 3000000000L;
+    private static final int LEAST_NUMBER = -2147483648, GREATEST_NUMBER = 2147483647;
     private static final int ACCEPTED = 0;
 
     private final Page page;
@@ -555,7 +556,7 @@ public final class TariffDesk {
         }
 
         private static boolean fits(long number) {
-            return number >= Integer.MIN_VALUE && number <= Integer.MAX_VALUE;
+            return number >= LEAST_NUMBER && number <= GREATEST_NUMBER;
         }
     }
 
@@ -632,7 +633,7 @@ public final class TariffDesk {
         /** The tariff is offered: at how many nodes another one stands then. */
         int take(Tariff tariff) {
             int number = tariffs.size;
-            if (number >= changesBefore.length) {
+            if (number < 0 || number >= changesBefore.length) {
                 return 0;
             }
             int before = changes;
@@ -872,7 +873,7 @@ public final class TariffDesk {
 
         private int below(int bound) {
             // the rest by 2 to the 31 is the lower 31 bits, wherever the product wraps
-            seed = (1103515245 * seed + 12345) & Integer.MAX_VALUE;
+            seed = (1103515245 * seed + 12345) & GREATEST_NUMBER;
             return bound < 1 ? 0 : seed / 65536 % bound;
         }
     }

@@ -5,21 +5,18 @@ import java.lang.reflect.Method;
 import java.lang.reflect.Modifier;
 import java.nio.file.Files;
 import java.nio.file.Path;
+import java.util.List;
 import java.util.Set;
 import java.util.TreeSet;
 import java.util.regex.Pattern;
 
 /** The public face and what LANGUAGE.md asks for, as far as a test can look at it. */
 public final class FaceTest {
-    private static final Set<String> FACE = Set.of(
-            "int letter(int)", "int blank()", "int fault()", "int desk()", "int tariff(int,int)", "int as(int,int)",
-            "long price(int,int)", "int node(int,int)", "int offer(int,int,int,int)", "int undo()",
-            "int cheapest(int)", "long cost(int)", "int piece(int,int)", "int bargain(int,int)",
-            "int crossing(int,int)", "int would(int,int,int,int)", "int see(int,int,int)", "int forget()",
-            "int drawn(int,int,int)", "int image()", "int restore()", "int count(int)", "long digest()");
     private static final String[] RULED_OUT = {"->", "::", "\\btry\\b", "\\bcatch\\b", "\\bthrow\\b", "\\bfinally\\b",
         "\\bsynchronized\\b", "\\bassert\\b", "Exact\\b", "\\bdouble\\b", "\\bfloat\\b", "\\bSystem\\.(?!arraycopy)",
         "\\bimport (?!java\\.util\\.Arrays;)", "\\bstatic \\{", "\\bpackage\\b"};
+    /** What is used of the library, all of it named in rule 4; each other name with a dot is of a class inside. */
+    private static final Set<String> LIBRARY = Set.of("Arrays.fill", "Math.max", "Math.min", "Math.floorDiv");
 
     public static void main(String[] args) throws IOException {
         face();
@@ -29,11 +26,26 @@ public final class FaceTest {
         Due.end();
     }
 
-    private static void face() {
+    private static void face() throws IOException {
         Due.that("public and final", Modifier.isPublic(TariffDesk.class.getModifiers())
                 && Modifier.isFinal(TariffDesk.class.getModifiers()));
-        Set<String> open = new TreeSet<>();
         Set<String> names = new TreeSet<>();
+        Due.that("the face is as the document's", openMethods(names).equals(methodsDue()));
+        Due.is("constructors", TariffDesk.class.getDeclaredConstructors().length, 1);
+        Due.that("public constructor", Modifier.isPublic(TariffDesk.class.getDeclaredConstructors()[0].getModifiers()));
+        privateNames(TariffDesk.class, names);
+        Due.that("at most some twelve classes", TariffDesk.class.getDeclaredClasses().length <= 11);
+        for (Class<?> inside : TariffDesk.class.getDeclaredClasses()) {
+            Due.that(inside + " is static, not public", Modifier.isStatic(inside.getModifiers())
+                    && !Modifier.isPublic(inside.getModifiers()) && !Modifier.isProtected(inside.getModifiers()));
+            Due.that(inside + " has few fields", inside.getDeclaredFields().length <= 20);
+            privateNames(inside, names);
+        }
+    }
+
+    /** All methods that are not private, as in "long price(int,int)"; and their names. */
+    private static Set<String> openMethods(Set<String> names) {
+        Set<String> open = new TreeSet<>();
         for (Method method : TariffDesk.class.getDeclaredMethods()) {
             if (!Modifier.isPrivate(method.getModifiers())) {
                 StringBuilder types = new StringBuilder();
@@ -45,17 +57,16 @@ public final class FaceTest {
                 Due.that(method.getName() + " is public", Modifier.isPublic(method.getModifiers()));
             }
         }
-        Due.that("the face is " + open, open.equals(FACE));
-        Due.is("constructors", TariffDesk.class.getDeclaredConstructors().length, 1);
-        Due.that("public constructor", Modifier.isPublic(TariffDesk.class.getDeclaredConstructors()[0].getModifiers()));
-        privateNames(TariffDesk.class, names);
-        Due.that("at most some twelve classes", TariffDesk.class.getDeclaredClasses().length <= 11);
-        for (Class<?> inside : TariffDesk.class.getDeclaredClasses()) {
-            Due.that(inside + " is static, not public", Modifier.isStatic(inside.getModifiers())
-                    && !Modifier.isPublic(inside.getModifiers()) && !Modifier.isProtected(inside.getModifiers()));
-            Due.that(inside + " has few fields", inside.getDeclaredFields().length <= 20);
-            privateNames(inside, names);
+        return open;
+    }
+
+    private static Set<String> methodsDue() throws IOException {
+        Set<String> due = new TreeSet<>();
+        for (String method : Readme.face()) {
+            due.add(method.replaceAll("(int|long) \\w+(?=[,)])", "$1").replace(", ", ","));
         }
+        Due.is("methods of the document's face", due.size(), 23);
+        return due;
     }
 
     private static void privateNames(Class<?> of, Set<String> taken) {
@@ -83,10 +94,41 @@ public final class FaceTest {
 
     private static void text() throws IOException {
         String text = Files.readString(Path.of("src/main/java/TariffDesk.java"));
+        faceAsWritten(text);
+        library(text);
         for (String word : RULED_OUT) {
             Due.that("no " + word + " in the text", !Pattern.compile(word).matcher(text).find());
         }
         Due.that("plain signs alone", text.chars().allMatch(c -> c < 127));
+    }
+
+    /** The names of parameters, too, the constants' values, and the headings ahead of the calls. */
+    private static void faceAsWritten(String text) throws IOException {
+        String document = Files.readString(Readme.DOCUMENT);
+        String block = String.join("", Readme.blocks(Readme.section(document, "The public face"), "java"));
+        for (String line : Readme.found(block, "(?m)^( *public .*?)[;{]? *$")) {
+            Due.that("the text has " + line, text.contains(line));
+        }
+        List<String> headings = Readme.found(document, "the interface says: (---- .*)\\.");
+        Due.is("headings", headings.size(), 6);
+        Due.that("headings in the document's order", Readme.found(text, "// (---- .*)").equals(headings));
+    }
+
+    private static void library(String text) {
+        String code = text.replaceAll("(?s)/\\*.*?\\*/", "").replaceAll("//.*|import .*", "");
+        for (String name : Readme.found(code, "\\b([A-Z][A-Za-z]*\\.\\w+)")) {
+            Due.that(name + " is of the library's part or a class inside", LIBRARY.contains(name)
+                    || isInside(name.substring(0, name.indexOf('.'))));
+        }
+    }
+
+    private static boolean isInside(String name) {
+        for (Class<?> inside : TariffDesk.class.getDeclaredClasses()) {
+            if (inside.getSimpleName().equals(name)) {
+                return true;
+            }
+        }
+        return false;
     }
 
     /** All calls of a run live in one room: after the constructor none of them makes anything. */
