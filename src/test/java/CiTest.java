@@ -1,4 +1,8 @@
+import static java.nio.file.attribute.PosixFilePermission.OWNER_EXECUTE;
+
 import java.io.IOException;
+import java.nio.file.Files;
+import java.nio.file.Path;
 import java.util.List;
 
 /** The command that README.md names for all tests: that it runs every one, and fails if one fails. */
@@ -10,14 +14,18 @@ public final class CiTest {
     private static final String BY_CODE = "System.exit(1);", BY_THROWING = "throw new IllegalStateException();";
     private static final String BY_NOT_COMPILING = "int due = \"\";";
 
+    private static String script;
     private static String command;
 
     public static void main(String[] args) throws Exception {
         List<String> commands = Readme.blocks(Readme.section(Readme.text(), "How to run its tests"), "sh");
         Due.that("README.md has a command for all tests", !commands.isEmpty());
-        command = commands.isEmpty() ? "exit 9" : commands.get(0);
+        script = commands.isEmpty() ? "none" : commands.get(0).trim();
+        Due.that("it can be run", Files.getPosixFilePermissions(Path.of(script)).contains(OWNER_EXECUTE));
+        // by bash, as a folder for passing files need not let anything be executed
+        command = "bash " + script;
         Folder folder = new Folder();
-        folder.copy(".ci/run");
+        folder.copy(script);
         folder.put("src/test/java/Helper.java", "final class Helper { static int due = 1; }");
         allPass(folder);
         for (String test : TESTS) {
@@ -41,7 +49,7 @@ public final class CiTest {
         for (String test : TESTS) {
             Due.that(test + " is run", ran.printed().contains(nameOf(test) + " ran"));
         }
-        Due.is("from another folder", folder.run("cd / && " + folder.project() + "/" + command).code(), 0);
+        Due.is("from another folder", folder.run("cd / && bash " + folder.project() + "/" + script).code(), 0);
     }
 
     /** The others are run all the same. */

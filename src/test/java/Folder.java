@@ -31,10 +31,9 @@ final class Folder {
         Files.writeString(file, text);
     }
 
-    /** The same file as in this project, and as executable as there. */
+    /** The same file as in this project. */
     void copy(String name) throws IOException {
         put(name, Files.readString(Path.of(name)));
-        project().resolve(name).normalize().toFile().setExecutable(Files.isExecutable(Path.of(name)));
     }
 
     void copyAll(String folder) throws IOException {

@@ -110,17 +110,20 @@ public final class ReadmeTest {
 
     private static void kinds(String text) {
         String part = Readme.section(text, "A desk as a text");
-        List<String> letters = Readme.found(part, "(?m)^\\| \\d [A-Z]+ \\| `(.)` \\|");
-        List<String> numbers = Readme.found(part, "(?m)^\\| (\\d) [A-Z]+ \\| `.` \\|");
-        Due.is("kinds", letters.size(), 5);
-        for (int i = 0; i < letters.size(); i++) {
-            TariffDesk x = Due.desk(letters.get(i) + "+1+02@0363");
-            Due.is("kind of " + letters.get(i), x.tariff(0, 0), Integer.parseInt(numbers.get(i)));
+        List<String> ends = Readme.found(part, "\\| With `(.*?)` for 10 \\|");
+        List<String> rows = Readme.found(part, "(?m)^\\| (\\d [A-Z]+ \\| `.` \\| .* \\| -?\\d+) \\|$");
+        Due.is("texts behind the kind", ends.size(), 1);
+        Due.is("kinds", rows.size(), 5);
+        for (String row : rows) {
+            String letter = row.substring(row.indexOf('`') + 1, row.indexOf('`') + 2);
+            TariffDesk x = Due.desk(letter + String.join("", ends));
+            Due.is("kind of " + letter, x.tariff(0, 0), row.charAt(0) - '0');
+            Due.is("price of " + letter, x.price(0, 10), Due.MORE + Long.parseLong(row.substring(row.lastIndexOf(' ') + 1)));
         }
     }
 
     private static void desks(String text) {
-        List<String> desks = Readme.found(text, "`([^`\n]*\\d@[^`\n]*)`");
+        List<String> desks = Readme.found(text, "`([a-z][^`\n]*\\d@[^`\n]*)`");
         Due.is("texts of desks", desks.size(), 1);
         for (String desk : desks) {
             Due.desk(desk);
